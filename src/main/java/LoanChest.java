@@ -256,7 +256,7 @@ public final class LoanChest {
         return isBarred(person) ? 4 : 0;
     }
 
-    /** Each reason is looked for in all SURETIES before the next one is: the first reason counts, not the first SURETY. */
+    /** The first reason counts, not the first SURETY: each is looked for in all of them before the next one is. */
     private int whyRefusedForSureties(int person) {
         if (tape.length() != law.current(Kind.SURETIES)) {
             return 5;
@@ -853,7 +853,7 @@ public final class LoanChest {
             return owedByCalls(person) + (open == null ? 0 : open.rest());
         }
 
-        /** The length of the shortest RING that a LOAN of the borrower's with these SURETIES is in; NONE without one. */
+        /** The length of the shortest RING with a LOAN of the borrower's that has these SURETIES; NONE without one. */
         int shortestRing(int borrower, long sureties) {
             long reached = sureties;
             for (int length = 1; length <= MOST_PEOPLE && reached != 0; length++) {

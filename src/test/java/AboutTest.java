@@ -9,16 +9,8 @@ public final class AboutTest {
         Check.finish();
     }
 
-    private static LoanChest chest(int people, String rules) {
-        LoanChest x = new LoanChest();
-        Check.people(x, people);
-        x.gift(0, 1000);
-        Check.rules(x, rules);
-        return x;
-    }
-
     private static void wrongInputs() {
-        LoanChest x = chest(2, "");
+        LoanChest x = Check.chest(2, 1000, "");
         Check.row("of a new one", new int[] {0, 100, 0, -1, 0, 0, 0}, what -> x.about(1, what));
         Check.refuses("about(2, 0)", () -> x.about(2, 0));
         Check.refuses("about(-1, 0)", () -> x.about(-1, 0));
@@ -27,7 +19,7 @@ public final class AboutTest {
     }
 
     private static void standing() {
-        LoanChest x = chest(5, "sureties 2;weeks 1;call 1;stands 9;ring 0;");
+        LoanChest x = Check.chest(5, 1000, "sureties 2;weeks 1;call 1;stands 9;ring 0;");
         Check.ask(x, 0, 10, 3, 4);
         Check.ask(x, 1, 10, 3, 4);
         Check.ask(x, 2, 10, 0, 4);
@@ -43,7 +35,7 @@ public final class AboutTest {
     }
 
     private static void character() {
-        LoanChest x = chest(2, "sureties 0;weeks 1;late 0;call 3;bar 9;");
+        LoanChest x = Check.chest(2, 1000, "sureties 0;weeks 1;late 0;call 3;bar 9;");
         x.ask(0, 10);
         Check.same("with an open one", x.about(0, 1), 100);
         x.pay(0, 10);
@@ -82,7 +74,7 @@ public final class AboutTest {
     }
 
     private static void barred() {
-        LoanChest x = chest(2, "sureties 0;weeks 1;late 0;call 1;bar 2;");
+        LoanChest x = Check.chest(2, 1000, "sureties 0;weeks 1;late 0;call 1;bar 2;");
         x.ask(0, 10);
         Check.weeks(x, 2);
         Check.same("one called", x.about(0, 2), 0);
@@ -98,7 +90,7 @@ public final class AboutTest {
     }
 
     private static void counts() {
-        LoanChest x = chest(3, "sureties 0;weeks 1;late 2;call 1;");
+        LoanChest x = Check.chest(3, 1000, "sureties 0;weeks 1;late 2;call 1;");
         x.fund(4, 77);
         x.ask(0, 10);
         x.ask(1, 10);

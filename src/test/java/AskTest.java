@@ -3,6 +3,7 @@ public final class AskTest {
     public static void main(String[] args) {
         newLoan();
         fromWhichFunds();
+        fromSixFunds();
         borrowerRefused();
         suretiesRefused();
         standsRefused();
@@ -13,16 +14,8 @@ public final class AskTest {
         Check.finish();
     }
 
-    private static LoanChest chest(int people, int pence, String rules) {
-        LoanChest x = new LoanChest();
-        Check.people(x, people);
-        x.gift(0, pence);
-        Check.rules(x, rules);
-        return x;
-    }
-
     private static void newLoan() {
-        LoanChest x = chest(5, 500, "");
+        LoanChest x = Check.chest(5, 500, "");
         Check.weeks(x, 3);
         Check.same("ask", Check.ask(x, 4, 100, 2, 0), 0);
         Check.same("tape", x.count(7), 0);
@@ -73,8 +66,28 @@ public final class AskTest {
         Check.row("taken", new int[] {0, 0, 10, 8, 0}, f -> x.taken(2, f));
     }
 
+    private static void fromSixFunds() {
+        LoanChest x = new LoanChest();
+        x.person(255);
+        x.gift(0, 6);
+        for (int f = 1; f < 6; f++) {
+            x.fund(f, f);
+        }
+        Check.rules(x, "sureties 0;");
+        Check.same("above all six", x.ask(0, 22), -11);
+        Check.same("all six", x.ask(0, 21), 0);
+        Check.row("taken", new int[] {6, 1, 2, 3, 4, 5}, f -> x.taken(0, f));
+        Check.refuses("taken(0, 6)", () -> x.taken(0, 6));
+        x.next();
+        x.pay(0, 6);
+        Check.row("back to fund 0", new int[] {6, 0, 0, 0, 0, 0, -1}, f -> x.chest(f, 1));
+        x.pay(0, 14);
+        Check.row("back from fund 5 on", new int[] {6, 0, 2, 3, 4, 5, -1}, f -> x.chest(f, 1));
+        Check.row("then", new int[] {0, 0, 0, 0, 0, 0, -1}, f -> x.chest(f, 0));
+    }
+
     private static void borrowerRefused() {
-        LoanChest x = chest(4, 500, "sureties 0;most 30;");
+        LoanChest x = Check.chest(4, 500, "sureties 0;most 30;");
         Check.same("no such one", x.ask(4, 10), -2);
         Check.same("person -1", x.ask(-1, 10), -2);
         Check.same("amount 0", x.ask(0, 0), -3);
@@ -90,7 +103,7 @@ public final class AskTest {
     }
 
     private static void suretiesRefused() {
-        LoanChest x = chest(5, 500, "sureties 2;stands 1;weeks 1;call 1;late 0;");
+        LoanChest x = Check.chest(5, 500, "sureties 2;stands 1;weeks 1;call 1;late 0;");
         Check.same("none", Check.ask(x, 0, 10), -6);
         Check.same("one", Check.ask(x, 0, 10, 1), -6);
         Check.same("three", Check.ask(x, 0, 10, 1, 2, 3), -6);
@@ -115,7 +128,7 @@ public final class AskTest {
     }
 
     private static void standsRefused() {
-        LoanChest x = chest(6, 500, "sureties 1;stands 2;");
+        LoanChest x = Check.chest(6, 500, "sureties 1;stands 2;");
         Check.same("first", Check.ask(x, 0, 10, 5), 0);
         Check.same("second", Check.ask(x, 1, 10, 5), 1);
         Check.same("third", Check.ask(x, 2, 10, 5), -9);
@@ -129,13 +142,13 @@ public final class AskTest {
 
     private static void ringRefused() {
         for (int ring = 0; ring <= 5; ring++) {
-            LoanChest x = chest(5, 500, "sureties 1;ring " + ring + ";");
+            LoanChest x = Check.chest(5, 500, "sureties 1;ring " + ring + ";");
             Check.ask(x, 0, 10, 1);
             Check.ask(x, 1, 10, 2);
             Check.ask(x, 2, 10, 3);
             Check.same("ring of 4 against " + ring, Check.ask(x, 3, 10, 0), ring >= 4 ? -10 : 3);
         }
-        LoanChest x = chest(5, 500, "sureties 1;ring 9;stands 9;");
+        LoanChest x = Check.chest(5, 500, "sureties 1;ring 9;stands 9;");
         Check.ask(x, 0, 10, 1);
         Check.ask(x, 1, 10, 2);
         x.pay(1, 10);
@@ -147,7 +160,7 @@ public final class AskTest {
     }
 
     private static void notSoMuch() {
-        LoanChest x = chest(2, 50, "sureties 0;keep 20;");
+        LoanChest x = Check.chest(2, 50, "sureties 0;keep 20;");
         Check.same("above keep", x.ask(0, 31), -11);
         Check.same("to keep", x.ask(0, 30), 0);
         Check.same("below keep", x.ask(1, 1), -11);
@@ -160,7 +173,7 @@ public final class AskTest {
     }
 
     private static void firstReason() {
-        LoanChest x = chest(8, 40, "sureties 2;stands 1;weeks 1;call 1;late 0;bar 1;most 20;ring 9;");
+        LoanChest x = Check.chest(8, 40, "sureties 2;stands 1;weeks 1;call 1;late 0;bar 1;most 20;ring 9;");
         Check.same("1 ahead of 2", Check.ask(x, 8, 0), -2);
         Check.same("called later", Check.ask(x, 0, 10, 1, 2), 0);
         Check.weeks(x, 2);
@@ -179,7 +192,7 @@ public final class AskTest {
     }
 
     private static void hundredLoans() {
-        LoanChest x = chest(2, 500, "sureties 0;");
+        LoanChest x = Check.chest(2, 500, "sureties 0;");
         for (int i = 0; i < 100; i++) {
             Check.same("loan " + i, x.ask(0, 1), i);
             x.pay(0, 1);

@@ -84,6 +84,14 @@ final class Check {
         return chest.ask(person, amount);
     }
 
+    static LoanChest chest(int people, int pence, String rules) {
+        LoanChest made = new LoanChest();
+        people(made, people);
+        made.gift(0, pence);
+        rules(made, rules);
+        return made;
+    }
+
     static void people(LoanChest chest, int howMany) {
         for (int i = 0; i < howMany; i++) {
             chest.person(0);

@@ -8,7 +8,7 @@ import java.util.HashSet;
 import java.util.Set;
 import java.util.TreeSet;
 
-/** The document's face, and rule 1 of LANGUAGE.md: no other member is seen, no private method has a public one's name. */
+/** The document's face and rule 1 of LANGUAGE.md: no other member is seen, no other method has a public one's name. */
 public final class FaceTest {
     private static final String[] FACE = {
         "int feed(int,int,int,int,int)", "boolean end(int)", "int rules()", "int fault()", "int rule(int)",

@@ -7,16 +7,8 @@ public final class RingTest {
         Check.finish();
     }
 
-    private static LoanChest chest(int people, String rules) {
-        LoanChest x = new LoanChest();
-        Check.people(x, people);
-        x.gift(0, 1000);
-        Check.rules(x, rules);
-        return x;
-    }
-
     private static void shortest() {
-        LoanChest x = chest(7, "sureties 2;stands 9;ring 0;");
+        LoanChest x = Check.chest(7, 1000, "sureties 2;stands 9;ring 0;");
         Check.ask(x, 0, 10, 1, 2);
         Check.ask(x, 1, 10, 2, 5);
         Check.ask(x, 2, 10, 3, 5);
@@ -33,7 +25,7 @@ public final class RingTest {
     }
 
     private static void longest() {
-        LoanChest x = chest(40, "sureties 1;ring 9;");
+        LoanChest x = Check.chest(40, 1000, "sureties 1;ring 9;");
         for (int p = 0; p < 39; p++) {
             Check.same("ask", Check.ask(x, p, 1, p + 1), p);
             Check.same("no ring yet", x.ring(p), -1);
@@ -45,7 +37,7 @@ public final class RingTest {
     }
 
     private static void endsWithItsLoans() {
-        LoanChest x = chest(3, "sureties 1;ring 0;weeks 1;call 1;");
+        LoanChest x = Check.chest(3, 1000, "sureties 1;ring 0;weeks 1;call 1;");
         Check.ask(x, 0, 10, 1);
         Check.ask(x, 1, 10, 0);
         Check.same("two", x.ring(0), 2);

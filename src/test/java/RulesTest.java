@@ -73,6 +73,8 @@ public final class RulesTest {
         faulty("most5;", 1, 0);
         faulty("5most;", 1, 0);
         faulty("most 5x;", 1, 5);
+        faulty("most 5a;", 1, 5);
+        faulty("most 5z;", 1, 5);
         faulty("most 000005;", 1, 5);
         faulty("Most 5;", 1, 0);
         faulty("mosT 5;", 1, 0);
@@ -94,6 +96,10 @@ public final class RulesTest {
         faulty("5", 1, 0);
         faulty("many 5;", 1, 0);
         faulty("mos 5;", 1, 0);
+        for (String word : WORDS) {
+            faulty("x" + word.substring(1) + " 2;", 1, 0);
+            faulty(word.substring(0, word.length() - 1) + "x 2;", 1, 0);
+        }
         faulty("mostly 5;", 1, 0);
         faulty("most most 5;", 1, 5);
         faulty("most;", 1, 4);

@@ -11,16 +11,8 @@ public final class WeekTest {
         Check.finish();
     }
 
-    private static LoanChest chest(int people, String rules) {
-        LoanChest x = new LoanChest();
-        Check.people(x, people);
-        x.gift(0, 1000);
-        Check.rules(x, rules);
-        return x;
-    }
-
     private static void whatIsDue() {
-        LoanChest x = chest(2, "sureties 0;weeks 3;late 1;call 20;");
+        LoanChest x = Check.chest(2, 1000, "sureties 0;weeks 3;late 1;call 20;");
         Check.weeks(x, 2);
         x.ask(0, 10);
         Check.same("its own week ends", x.next(), 3);
@@ -44,7 +36,7 @@ public final class WeekTest {
     }
 
     private static void rowOfLateWeeks() {
-        LoanChest x = chest(2, "sureties 0;weeks 10;late 0;call 3;");
+        LoanChest x = Check.chest(2, 1000, "sureties 0;weeks 10;late 0;call 3;");
         x.ask(0, 10);
         Check.weeks(x, 3);
         Check.same("late twice", x.loan(0, 6), 2);
@@ -63,7 +55,7 @@ public final class WeekTest {
     }
 
     private static void rulesOfTheLoan() {
-        LoanChest x = chest(2, "sureties 0;weeks 2;late 5;call 2;");
+        LoanChest x = Check.chest(2, 1000, "sureties 0;weeks 2;late 5;call 2;");
         x.ask(0, 10);
         Check.rules(x, "sureties 0;weeks 60;late 1;call 20;");
         x.ask(1, 60);
@@ -78,7 +70,7 @@ public final class WeekTest {
     }
 
     private static void parted() {
-        LoanChest x = chest(4, "sureties 3;weeks 1;late 1;call 1;");
+        LoanChest x = Check.chest(4, 1000, "sureties 3;weeks 1;late 1;call 1;");
         Check.ask(x, 0, 10, 3, 1, 2);
         Check.weeks(x, 2);
         Check.same("rest 11: first", x.about(3, 6), 4);
@@ -86,12 +78,12 @@ public final class WeekTest {
         Check.same("rest 11: third", x.about(2, 6), 3);
         Check.same("borrower", x.owes(0), 0);
         Check.same("lost", x.count(5), 0);
-        LoanChest y = chest(4, "sureties 3;weeks 1;late 0;call 1;");
+        LoanChest y = Check.chest(4, 1000, "sureties 3;weeks 1;late 0;call 1;");
         Check.ask(y, 0, 2, 3, 1, 2);
         Check.weeks(y, 2);
         Check.row("a call of 0 is none", new int[] {0, 1, 0, 1}, p -> y.about(p, 5));
         Check.row("nor does it bar", new int[] {0, 1, 0, 1}, p -> y.about(p, 2));
-        LoanChest z = chest(4, "sureties 2;weeks 2;late 3;call 2;");
+        LoanChest z = Check.chest(4, 1000, "sureties 2;weeks 2;late 3;call 2;");
         Check.ask(z, 0, 9, 1, 2);
         Check.weeks(z, 2);
         z.pay(0, 5);
@@ -101,7 +93,7 @@ public final class WeekTest {
     }
 
     private static void lostWithoutSureties() {
-        LoanChest x = chest(2, "sureties 0;weeks 1;late 7;call 1;");
+        LoanChest x = Check.chest(2, 1000, "sureties 0;weeks 1;late 7;call 1;");
         x.ask(0, 10);
         x.ask(1, 20);
         x.pay(0, 4);
@@ -137,7 +129,7 @@ public final class WeekTest {
     }
 
     private static void lastWeek() {
-        LoanChest x = chest(1, "sureties 0;weeks 60;late 1;call 20;");
+        LoanChest x = Check.chest(1, 1000, "sureties 0;weeks 60;late 1;call 20;");
         for (int w = 1; w <= 395; w++) {
             Check.same("next", x.next(), w);
         }
