@@ -6,15 +6,21 @@ final class Check {
     static final long THROWS = Long.MIN_VALUE;
 
     private static int wrong = 0;
+    private static String words = "";
 
     interface Call {
         long answer();
     }
 
+    /** The document's own words for which the checks from here on are; they are told with every wrong answer. */
+    static void words(String quoted) {
+        words = "\"" + quoted + "\": ";
+    }
+
     static void same(String what, long got, long due) {
         if (got != due) {
             wrong++;
-            System.out.println(what + " answered " + shown(got) + ", due is " + shown(due));
+            System.out.println(words + what + " answered " + shown(got) + ", due is " + shown(due));
         }
     }
 

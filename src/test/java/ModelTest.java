@@ -1,9 +1,14 @@
+import java.util.ArrayList;
+import java.util.Collections;
+import java.util.List;
 import java.util.Random;
 
 /** Long runs of calls, the same ones each time, on LoanChest and on Model: every answer must be the same. */
 public final class ModelTest {
-    private static final int RUNS = 1500;
+    private static final int RUNS = 2500;
+    /** All that an object is used for; the last of them are kept for looks at what the others left. */
     private static final int CALLS = 512;
+    private static final int LOOKS = 120;
     /** Among what was reached: 0 LOANS made, 2 to 11 those REFUSED, 12 RINGS, then LOANS REPAID and CALLED. */
     private static final int RINGS = 12;
     private static final int REPAID_OR_CALLED = RINGS;
@@ -58,10 +63,10 @@ public final class ModelTest {
         int pence = 40 + random.nextInt(random.nextBoolean() ? 100 : 1000);
         both("gift(0)", chest.gift(0, pence), model.gift(0, pence));
         rulesFrom(TEXTS[random.nextInt(TEXTS.length)]);
-        while (call < CALLS - 40) {
+        while (call < CALLS - LOOKS) {
             step();
         }
-        lookAtAll();
+        lookAround();
         tally();
     }
 
@@ -197,8 +202,7 @@ public final class ModelTest {
     }
 
     private void rulesFrom(String text) {
-        chest.end(0);
-        model.end(0);
+        both("end(0)", chest.end(0) ? 1 : 0, model.end(0) ? 1 : 0);
         int[] bytes = new int[text.length()];
         for (int i = 0; i < bytes.length; i++) {
             bytes[i] = text.charAt(i);
@@ -224,28 +228,54 @@ public final class ModelTest {
         }
     }
 
-    /** What is left in the end shows a slip whose row was not looked at. */
-    private void lookAtAll() {
-        for (int i = 0; i < 9; i++) {
-            both("count " + i, chest.count(i), model.count(i));
-        }
-        for (int k = 0; k < model.count(3); k++) {
-            for (int i = 0; i < 10; i++) {
-                both("loan(" + k + ", " + i + ")", chest.loan(k, i), model.loan(k, i));
-            }
-            for (int f = 0; f < model.count(2); f++) {
-                both("taken(" + k + ", " + f + ")", chest.taken(k, f), model.taken(k, f));
-            }
-        }
-        for (int p = 0; p < model.count(1); p++) {
-            both("ring(" + p + ")", chest.ring(p), model.ring(p));
-            for (int i = 0; i < 7; i++) {
-                both("about(" + p + ", " + i + ")", chest.about(p, i), model.about(p, i));
-            }
-        }
+    /** What is left in the end shows a slip whose row was not looked at: other ones of all looks in each run. */
+    private void lookAround() {
+        List<Runnable> looks = new ArrayList<>();
+        addLooksAtLoans(looks);
+        addLooksAtPeople(looks);
         for (int f = 0; f < 6; f++) {
             for (int w = 0; w <= model.count(0); w++) {
-                both("chest(" + f + ", " + w + ")", chest.chest(f, w), model.chest(f, w));
+                int fund = f;
+                int week = w;
+                looks.add(() -> both("chest(" + fund + ", " + week + ")", chest.chest(fund, week),
+                    model.chest(fund, week)));
+            }
+        }
+        for (int i = 0; i < 9; i++) {
+            int what = i;
+            looks.add(() -> both("count " + what, chest.count(what), model.count(what)));
+        }
+        Collections.shuffle(looks, random);
+        for (int i = 0; i < looks.size() && call < CALLS; i++) {
+            looks.get(i).run();
+        }
+    }
+
+    private void addLooksAtLoans(List<Runnable> looks) {
+        for (int k = 0; k < model.count(3); k++) {
+            int loan = k;
+            for (int i = 0; i < 10; i++) {
+                int what = i;
+                looks.add(() -> both("loan(" + loan + ", " + what + ")", chest.loan(loan, what),
+                    model.loan(loan, what)));
+            }
+            for (int f = 0; f < model.count(2); f++) {
+                int fund = f;
+                looks.add(() -> both("taken(" + loan + ", " + fund + ")", chest.taken(loan, fund),
+                    model.taken(loan, fund)));
+            }
+        }
+    }
+
+    private void addLooksAtPeople(List<Runnable> looks) {
+        for (int p = 0; p < model.count(1); p++) {
+            int person = p;
+            looks.add(() -> both("ring(" + person + ")", chest.ring(person), model.ring(person)));
+            looks.add(() -> both("owes(" + person + ")", chest.owes(person), model.owes(person)));
+            for (int i = 0; i < 7; i++) {
+                int what = i;
+                looks.add(() -> both("about(" + person + ", " + what + ")", chest.about(person, what),
+                    model.about(person, what)));
             }
         }
     }
