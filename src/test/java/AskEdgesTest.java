@@ -142,7 +142,7 @@ public final class AskEdgesTest {
     }
 
     private static void hundredLoans() {
-        Check.words("LOANS 0, 1, .. (100 at most)");
+        Check.words("LOANS 0, 1, .. (100 at most); or there are 100 LOANS");
         LoanChest x = Check.chest(3, 500, "sureties 0;");
         for (int k = 0; k < 99; k++) {
             Check.same("loan " + k, x.ask(0, 1), k);
@@ -188,7 +188,7 @@ public final class AskEdgesTest {
     }
 
     private static void barredByACall() {
-        Check.words("4 BARRED: who has a CALL that is not all PAID");
+        Check.words("4 BARRED; who has a CALL that is not all PAID");
         refused(4, withCalls("bar 9;"), 1, 5, 3, 4);
         refused(4, both(withCalls("bar 9;"), chest -> chest.pay(1, 4)), 1, 5, 3, 4);
         LoanChest x = new LoanChest();

@@ -5,6 +5,7 @@ public final class PayEdgesTest {
 
     public static void main(String[] args) {
         noSuchOne();
+        soMuch();
         below1();
         moreThanOneOwes();
         whatOneOwes();
@@ -16,6 +17,7 @@ public final class PayEdgesTest {
         callsGoBackToo();
         whatElseComes();
         stayCalled();
+        paidAndFines();
         Check.finish();
     }
 
@@ -25,6 +27,18 @@ public final class PayEdgesTest {
             Twins.same("pay(" + person + ", 1)", 0, chest -> chest.pay(person, 1) ? 1 : 0);
         }
         Check.no("pay(0, 1) of a new one", new LoanChest().pay(0, 1));
+    }
+
+    private static void soMuch() {
+        Check.words("One PAYS so much: true");
+        for (int pence : new int[] {1, 2, 59, 60}) {
+            LoanChest x = Check.chest(2, 60, "sureties 0;");
+            x.ask(1, 60);
+            Check.yes("pay " + pence, x.pay(1, pence));
+            Check.same("paid", x.loan(0, 3), pence);
+            Check.same("owes", x.owes(1), 60 - pence);
+            Check.same("chest", x.chest(0, 0), pence);
+        }
     }
 
     private static void below1() {
@@ -245,6 +259,22 @@ public final class PayEdgesTest {
         x.pay(3, 6);
         Check.row("all", new int[] {20, 6, 6, 5, 5, 4}, f -> x.chest(f, 3));
         Check.row("loan", new int[] {0, 18, 0, 0, 14, 7, 2, 2, 1, 18}, what -> x.loan(0, what));
+    }
+
+    private static void paidAndFines() {
+        Check.words("PAID: what came back of AMOUNT; FINES: what was laid on it, and of that what came.");
+        LoanChest x = Check.chest(2, 100, "sureties 0;weeks 10;late 5;call 20;");
+        x.ask(0, 50);
+        Check.weeks(x, 3);
+        Check.row("paid, fines, came", new int[] {0, 10, 0}, i -> x.loan(0, 3 + i));
+        x.pay(0, 9);
+        Check.row("paid, fines, came", new int[] {0, 10, 9}, i -> x.loan(0, 3 + i));
+        x.pay(0, 3);
+        Check.row("paid, fines, came", new int[] {2, 10, 10}, i -> x.loan(0, 3 + i));
+        x.next();
+        Check.row("paid, fines, came", new int[] {2, 15, 10}, i -> x.loan(0, 3 + i));
+        x.pay(0, 53);
+        Check.row("paid, fines, came", new int[] {50, 15, 15}, i -> x.loan(0, 3 + i));
     }
 
     private static void stayCalled() {

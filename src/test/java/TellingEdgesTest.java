@@ -10,6 +10,8 @@ public final class TellingEdgesTest {
         noSuchSurety();
         noSuchFund();
         ofAPerson();
+        openLoanOrNone();
+        callsNotAllPaid();
         barredTold();
         standsFor();
         characterUp();
@@ -52,7 +54,10 @@ public final class TellingEdgesTest {
     }
 
     private static void ofALoan() {
-        Check.words("NoSuchElementException: there is none such, or another what.");
+        Check.words("Of LOAN k: 0 borrower, 1 AMOUNT, 2 WEEK in which it began, 3 PAID, 4 FINES laid on it, 5 of these "
+            + "what came, 6 how often it was LATE, 7 its state (0 OPEN, 1 REPAID, 2 CALLED), 8 how many SURETIES, 9 of "
+            + "the AMOUNT what came back in all (by CALLS, too). NoSuchElementException: there is none such, or "
+            + "another what.");
         LoanChest x = new LoanChest();
         Twins.busy(x);
         Check.row("loan(0, ..)", new int[] {0, 50, 0, 0, 6, 0, 2, 2, 1, 7}, what -> x.loan(0, what));
@@ -114,7 +119,9 @@ public final class TellingEdgesTest {
     }
 
     private static void ofAPerson() {
-        Check.words("NoSuchElementException: no such one, or another what.");
+        Check.words("Of a person: 0 TAGS, 1 CHARACTER, 2 1 if BARRED, 3 the OPEN LOAN (NONE), 4 how many OPEN LOANS "
+            + "one STANDS for, 5 CALLS that are not all PAID, 6 what is owed by these. NoSuchElementException: no such "
+            + "one, or another what.");
         LoanChest x = new LoanChest();
         Twins.busy(x);
         Check.row("about(0, ..)", new int[] {0, 66, 1, -1, 0, 0, 0}, what -> x.about(0, what));
@@ -132,6 +139,39 @@ public final class TellingEdgesTest {
             Check.refuses("about(6, " + what + ")", () -> x.about(6, of));
             Check.refuses("about(-1, " + what + ")", () -> x.about(-1, of));
         }
+    }
+
+    private static void openLoanOrNone() {
+        Check.words("3 the OPEN LOAN (NONE)");
+        LoanChest x = Check.chest(3, 500, "sureties 0;weeks 1;late 0;call 1;");
+        Check.same("ahead of any", x.about(2, 3), -1);
+        x.ask(1, 5);
+        x.ask(2, 5);
+        Check.row("open loan", new int[] {-1, 0, 1}, p -> x.about(p, 3));
+        x.pay(1, 4);
+        Check.row("a penny is missing", new int[] {-1, 0, 1}, p -> x.about(p, 3));
+        x.pay(1, 1);
+        Check.row("repaid", new int[] {-1, -1, 1}, p -> x.about(p, 3));
+        Check.weeks(x, 2);
+        Check.row("called", new int[] {-1, -1, -1}, p -> x.about(p, 3));
+        x.ask(2, 5);
+        Check.row("another one", new int[] {-1, -1, 2}, p -> x.about(p, 3));
+    }
+
+    private static void callsNotAllPaid() {
+        Check.words("5 CALLS that are not all PAID, 6 what is owed by these");
+        LoanChest x = Check.chest(4, 500, "sureties 1;weeks 1;late 0;call 1;stands 9;");
+        for (int p = 0; p < 3; p++) {
+            Check.ask(x, p, 5, 3);
+        }
+        Check.row("none yet", new int[] {0, 0}, i -> x.about(3, 5 + i));
+        Check.weeks(x, 2);
+        for (int paid = 0; paid < 15; paid++) {
+            Check.row("behind " + paid, new int[] {3 - paid / 5, 15 - paid}, i -> x.about(3, 5 + i));
+            x.pay(3, 1);
+        }
+        Check.row("none more", new int[] {0, 0}, i -> x.about(3, 5 + i));
+        Check.row("the borrowers have none", new int[] {0, 0, 0}, p -> x.about(p, 5));
     }
 
     private static void barredTold() {
@@ -186,8 +226,7 @@ public final class TellingEdgesTest {
     }
 
     private static void characterUp() {
-        Check.words("CHARACTER: 100, and 10 for each LOAN REPAID that was never LATE, 5 for each other one REPAID; "
-            + "0 to 200");
+        Check.words("CHARACTER: 100, and 10 for each LOAN REPAID that was never LATE, 5 for each other one REPAID");
         LoanChest x = Check.chest(2, 500, "sureties 0;weeks 1;late 0;call 20;");
         Check.same("at first", x.about(0, 1), 100);
         for (int i = 1; i <= 10; i++) {
@@ -265,7 +304,8 @@ public final class TellingEdgesTest {
     }
 
     private static void ringOfTwoToForty() {
-        Check.words("its length: how many they are");
+        Check.words("RING: PEOPLE in a row, each a SURETY of the OPEN LOAN of the one ahead, the first one of the last "
+            + "one's; its length: how many they are");
         for (int length : new int[] {2, 3, 10, 39, 40}) {
             LoanChest x = Check.chest(40, 1000, "sureties 1;ring 0;");
             for (int p = 0; p < length; p++) {

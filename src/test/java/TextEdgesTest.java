@@ -13,6 +13,7 @@ public final class TextEdgesTest {
         blanks();
         goesOnAsLongAs();
         anyNumberOfRules();
+        wordNumberSemicolon();
         rangeOfEach();
         firstAlongTheText();
         leastOfOneToken();
@@ -21,6 +22,7 @@ public final class TextEdgesTest {
         moreThan300();
         readWhole();
         numberNotAsTold();
+        eachOnceAtMost();
         toldTwice();
         emptyThen();
         fromNowOn();
@@ -108,7 +110,8 @@ public final class TextEdgesTest {
     }
 
     private static void goesOnAsLongAs() {
-        Check.words("a WORD, NUMBER goes on as long as small letters and digits do");
+        Check.words("a WORD, NUMBER goes on as long as small letters and digits do; where it is not as told then it is "
+            + "no TOKEN");
         faulty("most5;", 1, 0);
         faulty("most 5bar 1;", 1, 5);
         faulty("5most 5;", 1, 0);
@@ -135,6 +138,19 @@ public final class TextEdgesTest {
         faulty(all + "most 2;", 3, all.length());
         faulty(all + ";", 1, all.length());
         told(all + " ", 9);
+    }
+
+    private static void wordNumberSemicolon() {
+        Check.words("RULE: one of these WORDS, a NUMBER, ;");
+        for (String word : WORDS) {
+            told(word + " 2;", 1);
+            faulty(word, 1, word.length());
+            faulty(word + ";", 1, word.length());
+            faulty(word + " 2", 1, word.length() + 2);
+            faulty("2 " + word + ";", 1, 0);
+            faulty("; " + word + " 2", 1, 0);
+            faulty(word + " 2;;", 1, word.length() + 3);
+        }
     }
 
     private static void rangeOfEach() {
@@ -264,6 +280,20 @@ public final class TextEdgesTest {
         faulty("bar 00010;", 2, 4);
     }
 
+    private static void eachOnceAtMost() {
+        Check.words("each once at most");
+        for (int k = 0; k < 9; k++) {
+            for (int other = 0; other < 9; other++) {
+                String first = WORDS[k] + " 2;";
+                if (other == k) {
+                    faulty(first + WORDS[other] + " 2;", 3, first.length());
+                } else {
+                    told(first + WORDS[other] + " 2;", 2);
+                }
+            }
+        }
+    }
+
     private static void toldTwice() {
         Check.words("3 a RULE told twice (at its WORD)");
         for (int k = 0; k < 9; k++) {
@@ -271,7 +301,6 @@ public final class TextEdgesTest {
             faulty(one + one, 3, one.length());
             faulty(one + "\n " + one, 3, one.length() + 2);
             String other = WORDS[(k + 1) % 9] + " 2;";
-            told(one + other, 2);
             faulty(one + other + one, 3, one.length() + other.length());
         }
         LoanChest x = new LoanChest();
@@ -346,7 +375,8 @@ public final class TextEdgesTest {
     }
 
     private static void ruleByNumber() {
-        Check.words("RULE k now (0 to 8: most, weeks, sureties, stands, late, call, keep, ring, bar). NONE for another k.");
+        Check.words("RULE k now (0 to 8: most, weeks, sureties, stands, late, call, keep, ring, bar). NONE for another "
+            + "k.");
         LoanChest x = new LoanChest();
         Check.rules(x, "bar 1;ring 3;keep 4;call 5;late 6;stands 7;sureties 0;weeks 8;most 9;");
         Check.row("rule", new int[] {9, 8, 0, 7, 6, 5, 4, 3, 1, -1, -1}, x::rule);

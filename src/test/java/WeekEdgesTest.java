@@ -44,7 +44,7 @@ public final class WeekEdgesTest {
     }
 
     private static void it400() {
-        Check.words("NONE: it is 400.");
+        Check.words("400 the last one; NONE: it is 400.");
         LoanChest x = Check.chest(1, 1000, "sureties 0;weeks 60;late 1;call 20;");
         for (int w = 1; w <= 398; w++) {
             Check.same("next()", x.next(), w);
