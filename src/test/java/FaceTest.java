@@ -14,11 +14,13 @@ public final class FaceTest {
         "int feed(int,int,int,int,int)", "boolean end(int)", "int rules()", "int fault()", "int rule(int)",
         "int person(int)", "boolean tag(int,int,boolean)", "int fund(int,int)", "int gift(int,int)",
         "int ask(int,int)", "boolean pay(int,int)", "int owes(int)", "int next()", "int chest(int,int)",
-        "int loan(int,int)", "int surety(int,int)", "int taken(int,int)", "int about(int,int)", "int ring(int)",
-        "int count(int)"
+        "int loan(int,int) throws java.util.NoSuchElementException",
+        "int surety(int,int) throws java.util.NoSuchElementException",
+        "int taken(int,int) throws java.util.NoSuchElementException",
+        "int about(int,int) throws java.util.NoSuchElementException", "int ring(int)", "int count(int)"
     };
 
-    public static void main(String[] args) {
+    public static void main(String[] args) throws NoSuchFieldException {
         Class<?> face = LoanChest.class;
         Check.yes("public and final", Modifier.isPublic(face.getModifiers()) && Modifier.isFinal(face.getModifiers()));
         Set<String> seen = new TreeSet<>();
@@ -37,9 +39,13 @@ public final class FaceTest {
             boolean isStatic = Modifier.isStatic(field.getModifiers());
             Check.yes("static " + field.getName(), !isStatic || Modifier.isFinal(field.getModifiers()));
         }
+        int none = Modifier.PUBLIC | Modifier.STATIC | Modifier.FINAL;
+        Check.same("NONE", LoanChest.NONE, -1);
+        Check.same("how NONE is declared", face.getDeclaredField("NONE").getModifiers(), none);
         Constructor<?>[] constructors = face.getDeclaredConstructors();
         Check.same("constructors", constructors.length, 1);
         Check.same("its parameters", constructors[0].getParameterCount(), 0);
+        Check.yes("it is public", Modifier.isPublic(constructors[0].getModifiers()));
         for (Class<?> inside : face.getDeclaredClasses()) {
             int bits = inside.getModifiers();
             Check.yes("class " + inside.getName(), Modifier.isStatic(bits) && !Modifier.isPublic(bits)
@@ -66,6 +72,10 @@ public final class FaceTest {
             made.append(made.length() == 0 ? "" : ",").append(one.getName());
         }
         String kind = Modifier.isPublic(method.getModifiers()) ? "" : "hidden ";
-        return kind + method.getReturnType().getName() + " " + method.getName() + "(" + made + ")";
+        made.append(")");
+        for (Class<?> one : method.getExceptionTypes()) {
+            made.append(" throws ").append(one.getName());
+        }
+        return kind + method.getReturnType().getName() + " " + method.getName() + "(" + made;
     }
 }
